@@ -623,7 +623,7 @@ public final class Tapebuffer {
         return sign >= 9 && sign <= 13 || sign >= 28 && sign <= 32;
     }
 
-    /** A row of signs. Its methods test the places they use, so that none of them can throw. */
+    /** A row of signs. Its size is 0 to ROOM at all times: what would go beyond that is not done. */
     private static final class Row {
         final int[] signs;
         int size;

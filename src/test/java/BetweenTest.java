@@ -1,3 +1,5 @@
+import java.util.function.IntFunction;
+
 /** Promises 11 to 14: what is put between the signs of a tape. */
 public final class BetweenTest {
     public static void main(String[] args) {
@@ -9,7 +11,7 @@ public final class BetweenTest {
     }
 
     /** Every number that is neither a place of a tape of 3 signs nor its end. */
-    private static void noSuchPlace(Tapebuffer x, String call, java.util.function.IntFunction<?> act) {
+    private static void noSuchPlace(Tapebuffer x, String call, IntFunction<?> act) {
         for (int place : new int[] {-1, 4, 200, Integer.MIN_VALUE, Integer.MAX_VALUE}) {
             Check.index(x, call + " at place " + place, () -> act.apply(place));
         }

@@ -1,0 +1,63 @@
+import java.io.IOException;
+import java.nio.charset.StandardCharsets;
+import java.nio.file.Files;
+import java.nio.file.Path;
+import java.util.List;
+import java.util.regex.Matcher;
+import java.util.regex.Pattern;
+
+/** Those rules of LANGUAGE.md that can be seen in the program's lines. */
+public final class LanguageTest {
+    private static final Path PROGRAM = Path.of("src/main/java/Tapebuffer.java");
+    private static final Pattern METHOD = Pattern.compile("^( {4}| {8})[\\w<].*\\(.*\\).* \\{$");
+
+    public static void main(String[] args) throws IOException {
+        List<String> lines = Files.readAllLines(PROGRAM, StandardCharsets.ISO_8859_1);
+        for (String line : lines) {
+            Check.due("signs 1 to 127 alone: " + line, line.chars().allMatch(sign -> sign > 0 && sign < 128), true);
+        }
+        String program = withoutComments(lines);
+        none(program, "an import or a package (rule 4)", "\\b(import|package)\\b");
+        none(program, "a lambda or a method reference (rule 2)", "->|::");
+        none(program, "a word that rule 6 rules out", "\\b(finally|synchronized|assert|try|catch)\\b");
+        none(program, "static state or an initialiser block (rule 5)", "\\bstatic\\s*\\{|static (?!final\\b)[\\w\\[\\]<>]+ \\w+( =|;)");
+        none(program, "another exception (rule 6)",
+            "throw (?!new (IllegalArgumentException|IndexOutOfBoundsException)\\(\"[^\"]*\"\\);)");
+        none(program, "texts joined by + (rule 10)", "\"\\s*\\+|\\+\\s*\"");
+        none(program, "a floating number (rule 3)", "\\b(double|float)\\b");
+        none(program, "another class of the library (rule 4)",
+            "\\b(?!Math\\.(min|max)\\(|System\\.arraycopy\\(|Long\\.MIN_VALUE)[A-Z]\\w*[a-z]\\w*\\.");
+        none(program, "more than seven parameters (rule 11)", "\\w\\((\\w[\\w\\[\\]]* \\w+, ){7}");
+        shortMethods(lines);
+        Check.end();
+    }
+
+    private static String withoutComments(List<String> lines) {
+        StringBuilder program = new StringBuilder();
+        for (String line : lines) {
+            String bare = line.strip();
+            if (!bare.startsWith("//") && !bare.startsWith("/*") && !bare.startsWith("*")) {
+                program.append(line).append('\n');
+            }
+        }
+        return program.toString();
+    }
+
+    private static void none(String program, String what, String pattern) {
+        Matcher found = Pattern.compile(pattern).matcher(program);
+        Check.due("the program's first of: " + what, found.find() ? found.group() : "", "");
+    }
+
+    private static void shortMethods(List<String> lines) {
+        int methods = 0;
+        for (int start = 0; start < lines.size(); start++) {
+            Matcher head = METHOD.matcher(lines.get(start));
+            if (head.matches()) {
+                methods++;
+                int end = start + lines.subList(start, lines.size()).indexOf(head.group(1) + "}");
+                Check.due("at most 60 lines: " + lines.get(start).strip(), end > start && end - start < 60, true);
+            }
+        }
+        Check.due("methods were found", methods > 52, true);
+    }
+}
