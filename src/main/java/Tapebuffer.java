@@ -15,7 +15,7 @@ public final class Tapebuffer {
     private static final int LEAST_BASE = 2;
     private static final int GREATEST_BASE = 36;
     // No part of a tape tells it: what is told has 32 binary digits.
-    private static final long NO_NUMBER = Long.MIN_VALUE;
+    private static final long NO_NUMBER = 4294967296L;
     private static final int[] DIGEST_WORDS = {1, 6, 27};
 
     private final Row[] tapes;
