@@ -10,6 +10,7 @@ final class Check {
     static final int REFUSED = -9;
 
     private static int wrong = 0;
+    private static String sentence = "";
 
     private Check() {
     }
@@ -32,10 +33,15 @@ final class Check {
         return x;
     }
 
+    /** What is tested from now on, to be told with each wrong answer. */
+    static void isFor(String words) {
+        sentence = words;
+    }
+
     static void due(String call, Object got, Object want) {
         if (!want.equals(got)) {
             wrong++;
-            System.out.println(call + " answered " + shown(got) + ", due is " + shown(want));
+            System.out.println(sentence + call + " answered " + shown(got) + ", due is " + shown(want));
         }
     }
 
@@ -91,7 +97,7 @@ final class Check {
     }
 
     private static void throwsAndKeeps(Tapebuffer x, String call, Supplier<?> act, Class<?> kind) {
-        String before = rows(x) + x.house(2);
+        String before = all(x);
         Object got;
         try {
             got = act.get();
@@ -99,13 +105,26 @@ final class Check {
             got = thrown.getClass();
         }
         due(call, got, kind);
-        due(call + ", then all that is held", rows(x) + x.house(2), before);
+        due(call + ", then all that is held", all(x), before);
+    }
+
+    static String all(Tapebuffer x) {
+        return rows(x) + x.house(2);
+    }
+
+    /** All that an object holds, but the tape 0. */
+    static String allButFirst(Tapebuffer x) {
+        return x.text(1) + "|" + x.text(2) + "|" + x.text(3) + "|" + x.seen()
+            + "|" + x.watched(0) + "|" + x.house(3) + "|" + x.house(2);
+    }
+
+    static String tapes(Tapebuffer x) {
+        return x.text(0) + "|" + x.text(1) + "|" + x.text(2) + "|" + x.text(3) + "|";
     }
 
     /** All that an object holds, but how often it told REFUSED. */
     private static String rows(Tapebuffer x) {
-        return x.text(0) + "|" + x.text(1) + "|" + x.text(2) + "|" + x.text(3) + "|" + x.seen()
-            + "|" + x.watched(0) + "|" + x.house(3) + "|";
+        return tapes(x) + x.seen() + "|" + x.watched(0) + "|" + x.house(3) + "|";
     }
 
     private static String shown(Object value) {
