@@ -194,8 +194,8 @@ public final class NumberEdgesTest {
             is(most, base, Integer.toString(base - 1));
             is(most.toUpperCase(), base, Integer.toString(base - 1));
             is("-" + most, base, Integer.toString(1 - base));
-            if (base < 36) {
-                String beyond = Integer.toString(base, 36);
+            for (int digit = base; digit < 36; digit++) {
+                String beyond = Integer.toString(digit, 36);
                 is(beyond, base, NONE);
                 is(beyond.toUpperCase(), base, NONE);
                 is("0" + beyond, base, NONE);
