@@ -9,6 +9,8 @@ public final class Tapebuffer {
     private static final int HIGHEST_WORD = 9999;
     // 9999 is below 4 to the power of 7.
     private static final int WORD_DIGITS = 7;
+    // No number of 64 binary digits has more of them by 10.
+    private static final int LONG_DIGITS = 19;
     private static final int MOST_OFTEN = 20;
     private static final int HIGHEST_SIGN = 255;
     private static final int HIGHEST_OUTER_BLANK = 32;
@@ -670,8 +672,14 @@ public final class Tapebuffer {
         }
 
         void turnRound() {
-            for (int i = 0; i < size / 2; i++) {
-                int mirror = size - 1 - i;
+            turnFrom(0);
+        }
+
+        void turnFrom(int first) {
+            if (first < 0) {
+                return;
+            }
+            for (int i = first, mirror = size - 1; i < mirror; i++, mirror--) {
                 int kept = signs[i];
                 signs[i] = signs[mirror];
                 signs[mirror] = kept;
@@ -715,18 +723,17 @@ public final class Tapebuffer {
         }
 
         void writeNumber(long number) {
+            int first = size;
+            long left = number;
+            for (int i = 0; i < LONG_DIGITS && (i == 0 || left != 0); i++) {
+                // The digit is made positive, not the number: the least one has no opposite.
+                writeSign('0' + Math.abs((int) (left % 10)));
+                left /= 10;
+            }
             if (number < 0) {
                 writeSign('-');
             }
-            // Below 0 there is one number more, so that the least one has its digits taken too.
-            long below = number < 0 ? number : -number;
-            long unit = 1;
-            for (int i = 0; i < 18 && below / unit <= -10; i++) {
-                unit *= 10;
-            }
-            for (; unit > 0; unit /= 10) {
-                writeSign('0' - (int) (below / unit % 10));
-            }
+            turnFrom(first);
         }
 
         String textOf(int from, int to) {

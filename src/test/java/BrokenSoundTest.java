@@ -9,7 +9,8 @@ import javax.tools.ToolProvider;
 
 /**
  * Promise 52: isSound() works out each part. By the document all parts are so at all times, thus each is put to the
- * test by a copy of the program that is broken in one line: there isSound() must notice it, whichever tape shows it.
+ * test by a copy of the program that is broken in one line: there isSound() must notice it, whichever tape shows it,
+ * and digest() must count 0 for it (promise 53).
  */
 public final class BrokenSoundTest {
     private static final Path PROGRAM = Path.of("src/main/java/Tapebuffer.java");
@@ -33,6 +34,7 @@ public final class BrokenSoundTest {
         number();
         numberBehindCopy();
         watch();
+        notSoundInDigest();
         Check.end();
     }
 
@@ -57,7 +59,8 @@ public final class BrokenSoundTest {
 
     private static void turnedTwice() throws Exception {
         Sentences.of(52, "each TAPE turned twice is as it was");
-        noticed("signs[mirror] = kept;", "signs[mirror] = signs[i];", "ab");
+        // Not in turnFrom, that numbers are written with, too: the number behind a copy would notice it as well.
+        noticed("turnFrom(0);", "turnFrom(0); changeSign(0, 'z');", "ab");
     }
 
     /** Just the cut at its length / 2 is broken. */
@@ -118,6 +121,17 @@ public final class BrokenSoundTest {
         noticedOfWatch("case 2:\n                return row.signAt(0);", "case 2:\n                return row.signAt(1);");
         noticedOfWatch("default:\n                return row.signAt(row.size - 1);",
             "default:\n                return row.signAt(0);");
+    }
+
+    private static void notSoundInDigest() throws Exception {
+        Sentences.of(53, "1 if isSound(), otherwise 0");
+        String line = "return isWatchLikeItsTape();";
+        long sound = digestOfNew(compiled(line, line));
+        Check.due("digest() where isSound() is false", digestOfNew(compiled(line, "return false;")), sound - 1);
+    }
+
+    private static long digestOfNew(Class<?> program) throws ReflectiveOperationException {
+        return (long) program.getMethod("digest").invoke(program.getConstructor().newInstance());
     }
 
     /** With the row on one tape alone, each in its turn. */

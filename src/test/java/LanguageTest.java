@@ -16,7 +16,9 @@ public final class LanguageTest {
         "IllegalStateException|IllegalArgumentException|UnsupportedOperationException|NoSuchElementException";
     private static final String LIBRARY = "Math\\.|Integer\\.|Long\\.|System\\.arraycopy\\(|List\\.of\\("
         + "|Arrays\\.(copyOf|copyOfRange|fill)\\(";
-    private static final Pattern METHOD = Pattern.compile("^( {4}| {8})[\\w<].*\\(.*\\).* \\{$");
+    private static final Pattern DIVISION = Pattern.compile("(?<![/*])[/%]=?(?![/*]) *\\(*([\\w.]+)");
+    private static final Pattern METHOD = Pattern.compile(
+        "^( {4}| {8})(?!(?:if|for|while|switch|do|try|return|else)\\b)[\\w<].*\\(.*\\).* \\{$");
 
     public static void main(String[] args) throws IOException {
         List<String> lines = Files.readAllLines(PROGRAM, StandardCharsets.ISO_8859_1);
@@ -38,7 +40,24 @@ public final class LanguageTest {
         none(program, "a function whose name ends in Exact (rule 4)", "Exact\\(");
         none(program, "more than seven parameters (rule 11)", "\\w\\((\\w[\\w\\[\\]]* \\w+, ){7}");
         shortMethods(lines);
+        divisorsLookedAt(program);
         Check.end();
+    }
+
+    /** A divisor is a number that is written there, or a name that was compared ahead of it in its method (rule 7). */
+    private static void divisorsLookedAt(String program) {
+        String method = "";
+        for (String line : program.replaceAll("\"[^\"]*\"|'.'", "0").split("\n")) {
+            method = METHOD.matcher(line).matches() ? line : method + "\n" + line;
+            Matcher division = DIVISION.matcher(line);
+            while (division.find()) {
+                String divisor = division.group(1);
+                String ahead = method.substring(0, method.length() - line.length() + division.start());
+                boolean isLookedAt = divisor.matches("[1-9]\\w*")
+                    || Pattern.compile("(?<![\\w.])" + divisor + " ([!=]=|[<>]=?) ").matcher(ahead).find();
+                Check.due("\"" + divisor + "\" is looked at before it divides: " + line.strip(), isLookedAt, true);
+            }
+        }
     }
 
     private static String withoutComments(List<String> lines) {
